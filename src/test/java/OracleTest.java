@@ -30,8 +30,8 @@ public final class OracleTest {
     }
 
     public static void main(String[] args) {
-        int runs = args.length > 1 ? Integer.parseInt(args[1]) : 1500;
-        long first = args.length > 2 ? Long.parseLong(args[2]) : 1;
+        int runs = args.length > 0 ? Integer.parseInt(args[0]) : 1500;
+        long first = args.length > 1 ? Long.parseLong(args[1]) : 1;
         for (long seed = first; seed < first + runs; seed++) {
             OracleTest test = new OracleTest(seed);
             test.run();
