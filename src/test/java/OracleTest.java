@@ -44,6 +44,7 @@ public final class OracleTest {
             }
         }
         checkEachAnswerCame();
+        dearest();
         Check.end("OracleTest");
     }
 
@@ -59,6 +60,33 @@ public final class OracleTest {
         if (System.getenv("TELL") != null) {
             SEEN.forEach((name, times) -> System.out.println(name + " " + times));
         }
+    }
+
+    /** The largest level with all things to find, so that nearly as many states are found as there can be. */
+    private static void dearest() {
+        OracleTest test = new OracleTest(1);
+        test.call("level", 12, 8, '.');
+        test.call("fill", 0, 0, 7, 12, 1, '=');
+        test.call("fill", 0, 0, 4, 12, 1, '=');
+        test.call("fill", 0, 0, 2, 12, 1, '=');
+        for (int i = 0; i < 4; i++) {
+            test.call("put", 0, 2 + 2 * i, 6, "khsS".charAt(i));
+        }
+        test.call("put", 0, 11, 0, 'E');
+        test.call("start", 0, 0, 6);
+        test.call("guard", 0, 1, 6, 3);
+        for (String name : new String[] {"states", "frames", "softLocks", "ways", "meanLeft", "rests", "longestAir"}) {
+            test.call(name, 0);
+        }
+        test.call("bot", 0, 3, 30, 77, 30);
+        test.call("hardest", 'x');
+        test.call("isWinnableWith", 0, 't');
+        test.call("put", 0, 11, 0, '.');
+        test.call("states", 0);
+        test.call("softLocks", 0);
+        test.call("isWinnableWith", 0, 't');
+        test.call("isSound");
+        Check.same("dearest level", "", test.wrong);
     }
 
     private static List<Method> face() {

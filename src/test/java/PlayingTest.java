@@ -563,6 +563,10 @@ public final class PlayingTest {
         Check.same("35 the second one", false, mended.isPatched(1));
         mended.mend(0);
         Check.same("35 mended", true, mended.isPatched(1));
+        Levelsmith both = kept("222", "....", "@..E", "####");
+        both.fill(0, 2, 0, 1, 2, '#');
+        both.mend(0);
+        Check.same("35 filled and mended", true, both.isPatched(0));
     }
 
     private static void ghost() {

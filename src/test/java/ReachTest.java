@@ -24,6 +24,8 @@ public final class ReachTest {
         isWinnableWith();
         mend();
         mendWithHelpOfAir();
+        mendNearby();
+        guardsByPhases();
         mendAt();
         rests();
         longestAir();
@@ -155,6 +157,7 @@ public final class ReachTest {
     private static void softLocks() {
         // In the shaft: twice once from above, once at its bottom, and between with and without a rise, in 12 phases.
         Check.same("16 shaft", 60, drawn(SHAFT).softLocks(0));
+        Check.same("16 none, by the lowest input alone", 0, drawn("^..", "E@.", "###").softLocks(0));
         Check.same("16 all", 12, drawn(CLOSED).softLocks(0));
         Check.same("16 none", 0, drawn("####", "@..E", "####").softLocks(0));
         Check.fails("16 no level", INDEX, () -> drawn(CLOSED).softLocks(1));
@@ -178,6 +181,8 @@ public final class ReachTest {
         Check.same("18 one must take the keys", 1, drawn("###", "@kE", "###").ways(0));
         Check.same("18 one can jump over", 2, drawn("...", "@kE", "###").ways(0));
         Check.same("18 none", 0, drawn("###", "@k#", "###").ways(0));
+        Check.same("18 by the lowest input alone", 1, drawn("^..", "E@.", "###").ways(0));
+        Check.same("18 by the first state alone", 1, drawn("###", "E@#", "###").ways(0));
         // On the left: hammers, or springs behind them; on the right the exit.
         Check.same("18 a way aside", 3, drawn("#####", "sh@.E", "#####").ways(0));
         Check.same("18 two ways aside", 4, drawn("h..s..", "@....E", "######").ways(0));
@@ -221,6 +226,7 @@ public final class ReachTest {
         Check.same("20 springs", true, drawn(".....", "..#..", "..#..", "@.#.E", "#####").isWinnableWith(0, 't'));
         Check.same("20 no springs", false, drawn(".....", "..#..", "..#..", "@.#.E", "#####").isWinnableWith(0, 's'));
         Check.same("20 no switch", false, drawn("####", "@.GE", "####").isWinnableWith(0, 't'));
+        Check.same("20 by the lowest input alone", true, drawn("^..", "E@.", "###").isWinnableWith(0, 't'));
         Check.same("20 no help is needed", true, drawn(CORRIDOR).isWinnableWith(0, 'g'));
         Check.fails("20 no such help", ARGUMENT, () -> spiked.isWinnableWith(0, 'x'));
         Check.fails("20 no level", INDEX, () -> spiked.isWinnableWith(1, 'x'));
@@ -258,6 +264,62 @@ public final class ReachTest {
         Levelsmith short1 = drawn("####", "@..E", "#.##");
         Check.same("21 a bridge of one", 1, short1.mend(0));
         Check.same("21 the bridge", '=', short1.tile(0, 1, 2));
+    }
+
+    private static void mendsAt(String what, int x, int y, char sign, String... rows) {
+        Levelsmith house = drawn(rows);
+        Check.same("22 x " + what, x, house.mendAt(0, 'x'));
+        Check.same("22 y " + what, y, house.mendAt(0, 'y'));
+        Check.same("21 " + what, 1, house.mend(0));
+        Check.same("21 tile " + what, sign, house.tile(0, x, y));
+        Check.same("21 sound " + what, true, house.isWinnable(0) && house.isSound());
+    }
+
+    /** Cells all round the one where a frame begins, also those that are looked at while dying alone. */
+    private static void mendNearby() {
+        mendsAt("the first cell", 0, 0, '=', "#.E", "@##", "###");
+        mendsAt("to the right", 2, 1, '=', "####", "@.#E", "####");
+        mendsAt("to the left", 1, 1, '=', "####", "E#.@", "####");
+        mendsAt("below to the right", 1, 1, '=', "@##", "^#E", "###");
+        mendsAt("below to the left", 1, 1, '=', "##@", "E#^", "###");
+        mendsAt("above to the right", 1, 0, '=', "^#E", "@##", "###");
+        mendsAt("above to the left", 1, 0, '=', "E#^", "##@", "###");
+        mendsAt("above", 0, 1, '=', ".E#", "###", "@##", "###");
+        // On the exit below a guard stands; only a plate in place of the exit would help, and that is no change.
+        Levelsmith exit = drawn("@.E", "E##", "###");
+        exit.guard(0, 0, 0, 1);
+        exit.guard(0, 1, 0, 1);
+        Check.fails("21 no exit is changed", UnsupportedOperationException.class, () -> exit.mend(0));
+    }
+
+    /** In levels without spikes the help against spikes changes nothing, so both must find the same, guards and all. */
+    private static void guardsByPhases() {
+        int[] ways = {0, 1, 2, 3, 6};
+        int won = 0;
+        Levelsmith house = new Levelsmith();
+        for (int n = 0; n < 1200; n++) {
+            if (n % 30 == 0) {
+                house = new Levelsmith();
+                house.level(9, 4, '#');
+            }
+            int start = n % 3;
+            house.fill(0, 0, 0, 9, 4, '#');
+            house.fill(0, 0, 2, 9, 1, '.');
+            house.fill(0, n % 7, 1, 1 + n / 7 % 2, 1, '.');
+            house.put(0, 8, 2, 'E');
+            house.start(0, start, 2);
+            if (n % 30 == 0) {
+                house.guard(0, n / 30 % 3, ways[n / 30 % 5], 2);
+                house.guard(0, n / 90 % 3, ways[n / 150 % 5], 2);
+            }
+            if (n % 30 == 15) {
+                house.guard(0, 2, ways[n / 60 % 5], 1 + n / 30 % 2);
+            }
+            boolean wins = house.isWinnable(0);
+            won += wins ? 1 : 0;
+            Check.same("20 guards " + n, wins, house.isWinnableWith(0, 's'));
+        }
+        Check.same("20 some are won, and some are not", true, won > 200 && won < 1000);
     }
 
     private static void mendAt() {

@@ -228,6 +228,12 @@ public final class ShownTest {
         Check.same("39 y", 2, house.hardest('y'));
         Check.fails("39 no letter", ARGUMENT, () -> house.hardest('Y'));
         hardestOfSeveral();
+        // Below the start a guard stands: who falls dies, who falls aside wins.
+        Levelsmith corner = drawn("@##", ".E#", "###");
+        corner.guard(0, 0, 0, 1);
+        int wins = corner.bot(0, 0, 100, 4, 30);
+        Check.same("38 in the first cell", 30 - wins, corner.fell(0, 0));
+        Check.same("39 the first cell", "0 0", corner.hardest('x') + " " + corner.hardest('y'));
     }
 
     /** Spikes on both sides of several cells: deaths come from many, and of the most the first one by rows counts. */
@@ -287,6 +293,39 @@ public final class ShownTest {
         Check.same("41 frames up to winning", 9002, house.makerAt(0));
         Check.same("41 then the others", "3003 4003 5003 3",
                 house.makerAt(1) + " " + house.makerAt(2) + " " + house.makerAt(3) + " " + house.makerAt(4));
+    }
+
+    /** Levels that differ in one thing alone, which is the first or the last of its kind. */
+    private static void isStolenByAll() {
+        Levelsmith house = drawn("...", "@.E", "###");
+        house.guard(0, 0, 1, 0);
+        house.guard(0, 0, 1, 0);
+        playAndKeep(house, 0, "22");
+        house.publish(0, 1, 0);
+        Check.draw(house, "...", "@.E", "###", "...");
+        house.guard(1, 0, 1, 0);
+        house.guard(1, 0, 1, 0);
+        Check.same("42 a higher one", false, house.isStolen(1, 0));
+        Check.draw(house, "....", "@.E.", "###.");
+        house.guard(2, 0, 1, 0);
+        house.guard(2, 0, 1, 0);
+        Check.same("42 a wider one", false, house.isStolen(2, 0));
+        Check.draw(house, "...", "@.E", "###");
+        house.guard(3, 1, 1, 0);
+        house.guard(3, 0, 1, 0);
+        Check.same("42 another first guard", false, house.isStolen(3, 0));
+        Check.draw(house, "...", "@.E", "###");
+        house.guard(4, 0, 1, 0);
+        house.guard(4, 0, 1, 1);
+        Check.same("42 a guard in another row", false, house.isStolen(4, 0));
+        Levelsmith last = drawn("...", "@.E", "###");
+        playAndKeep(last, 0, "22");
+        last.publish(0, 1, 0);
+        last.put(0, 2, 2, '=');
+        Check.same("42 another last tile", false, last.isStolen(0, 0));
+        last.put(0, 2, 2, '#');
+        last.put(0, 0, 0, '=');
+        Check.same("42 another first tile", false, last.isStolen(0, 0));
     }
 
     private static void publishExceptions() {
@@ -382,6 +421,7 @@ public final class ShownTest {
         Check.same("42 a guard that goes less far", false, house.isStolen(3, 0));
         Check.draw(house, "...", "@..", "###");
         Check.same("42 another size", false, house.isStolen(4, 0));
+        isStolenByAll();
         house.put(0, 0, 0, '#');
         Check.same("42 it is another one now", false, house.isStolen(0, 2));
         Check.fails("42 no level", INDEX, () -> house.isStolen(5, 10));
