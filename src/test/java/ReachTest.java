@@ -157,7 +157,7 @@ public final class ReachTest {
     private static void softLocks() {
         // In the shaft: twice once from above, once at its bottom, and between with and without a rise, in 12 phases.
         Check.same("16 shaft", 60, drawn(SHAFT).softLocks(0));
-        Check.same("16 none, by the lowest input alone", 0, drawn("^..", "E@.", "###").softLocks(0));
+        Check.same("16 none, by the lowest input alone", 0, drawn("^^#", "E@#", "###").softLocks(0));
         Check.same("16 all", 12, drawn(CLOSED).softLocks(0));
         Check.same("16 none", 0, drawn("####", "@..E", "####").softLocks(0));
         Check.fails("16 no level", INDEX, () -> drawn(CLOSED).softLocks(1));
@@ -181,7 +181,7 @@ public final class ReachTest {
         Check.same("18 one must take the keys", 1, drawn("###", "@kE", "###").ways(0));
         Check.same("18 one can jump over", 2, drawn("...", "@kE", "###").ways(0));
         Check.same("18 none", 0, drawn("###", "@k#", "###").ways(0));
-        Check.same("18 by the lowest input alone", 1, drawn("^..", "E@.", "###").ways(0));
+        Check.same("18 by the lowest input alone", 1, drawn("^^#", "E@#", "###").ways(0));
         Check.same("18 by the first state alone", 1, drawn("###", "E@#", "###").ways(0));
         // On the left: hammers, or springs behind them; on the right the exit.
         Check.same("18 a way aside", 3, drawn("#####", "sh@.E", "#####").ways(0));
@@ -226,7 +226,7 @@ public final class ReachTest {
         Check.same("20 springs", true, drawn(".....", "..#..", "..#..", "@.#.E", "#####").isWinnableWith(0, 't'));
         Check.same("20 no springs", false, drawn(".....", "..#..", "..#..", "@.#.E", "#####").isWinnableWith(0, 's'));
         Check.same("20 no switch", false, drawn("####", "@.GE", "####").isWinnableWith(0, 't'));
-        Check.same("20 by the lowest input alone", true, drawn("^..", "E@.", "###").isWinnableWith(0, 't'));
+        Check.same("20 by the lowest input alone", true, drawn("^^#", "E@#", "###").isWinnableWith(0, 't'));
         Check.same("20 no help is needed", true, drawn(CORRIDOR).isWinnableWith(0, 'g'));
         Check.fails("20 no such help", ARGUMENT, () -> spiked.isWinnableWith(0, 'x'));
         Check.fails("20 no level", INDEX, () -> spiked.isWinnableWith(1, 'x'));
