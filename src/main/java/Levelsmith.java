@@ -28,6 +28,7 @@ public final class Levelsmith {
     private static final int SETS = 8;
     private static final int STATES = CELLS * PHASES * RISES * SWITCHES * SETS;
     private static final int INPUTS = 6;
+    private static final int WORD = 64;
     private static final int HELD = 3;
 
     private static final int KEYS = 1;
@@ -169,12 +170,12 @@ public final class Levelsmith {
     }
 
     public int frames(int level) throws IndexOutOfBoundsException, NoSuchElementException {
-        return wonReachOf(level).runLength();
+        return wonReachOf(level).runFrames;
     }
 
     public int routeAt(int level, int frame) throws IndexOutOfBoundsException, NoSuchElementException {
         Reach won = wonReachOf(level);
-        if (frame < 0 || frame >= won.runLength()) {
+        if (frame < 0 || frame >= won.runFrames) {
             throw new IndexOutOfBoundsException("no such frame");
         }
         return won.inputOfRun(frame);
@@ -604,9 +605,11 @@ public final class Levelsmith {
 
     private boolean isRunSound(int level, Reach known) {
         Plan plan = planAt(level);
-        int length = known.runLength();
+        int length = known.runFrames;
         replayed.begin(level, plan);
-        replayed.giveAll(plan, known.route, length);
+        for (int frame = 0; frame < length && replayed.goesOn(); frame++) {
+            replayed.give(plan, known.inputOfRun(frame));
+        }
         return replayed.end == WON && replayed.given == length && known.leftAt(0) == length;
     }
 
@@ -964,14 +967,19 @@ public final class Levelsmith {
     private static final class Reach {
         private static final int TO_DEATH = -1;
         private static final int TO_WIN = -2;
+        // What follows a state stands in two numbers, three inputs in each, for the sake of room.
+        private static final int PARTS = 2;
+        private static final int PART_INPUTS = 3;
+        private static final int BITS = 20;
+        private static final long MASK = (1L << BITS) - 1;
 
         int level = -1;
         int version = -1;
-        final int[] route = new int[STATES];
+        /** The frames of the shortest run, 0 if there is none. */
+        int runFrames = 0;
         private final Codes codes = new Codes();
-        private final int[] depths = new int[STATES];
         private final int[] before = new int[STATES];
-        private final int[] next = new int[STATES * INPUTS];
+        private final long[] next = new long[STATES * PARTS];
         private final int[] left = new int[STATES];
         private final Player from = new Player();
         private final Player player = new Player();
@@ -996,10 +1004,10 @@ public final class Levelsmith {
                 for (int input = 0; input < INPUTS; input++) {
                     player.become(from);
                     char end = player.pass(plan, input);
-                    next[INPUTS * at + input] = arrive(end, at, input);
+                    noteNext(at, input, arrive(end, at, input));
                 }
             }
-            tellRoute();
+            runFrames = winAt < 0 ? 0 : depthAt(winAt) + 1;
         }
 
         private int arrive(char end, int at, int input) {
@@ -1027,7 +1035,6 @@ public final class Levelsmith {
             if (place < 0 || place >= STATES) {
                 return;
             }
-            depths[place] = at < 0 ? 0 : depthAt(at) + 1;
             before[place] = at < 0 ? -1 : INPUTS * at + input;
             int cell = player.cell();
             if (cell >= 0 && cell < CELLS && firstInCells[cell] < 0) {
@@ -1035,18 +1042,29 @@ public final class Levelsmith {
             }
         }
 
-        private void tellRoute() {
-            int at = winAt;
-            int input = winInput;
-            for (int frame = runLength() - 1; frame >= 0 && frame < STATES && at >= 0 && at < STATES; frame--) {
-                route[frame] = input;
-                input = before[at] < 0 ? 0 : before[at] % INPUTS;
-                at = stateBefore(at);
+        private void noteNext(int at, int input, int to) {
+            if (at >= 0 && at < STATES && input >= 0 && input < INPUTS) {
+                int part = PARTS * at + input / PART_INPUTS;
+                int shift = input % PART_INPUTS * BITS;
+                next[part] = next[part] & ~(MASK << shift) | (long) (to - TO_WIN) << shift;
             }
         }
 
+        int nextOf(int at, int input) {
+            if (at < 0 || at >= codes.count || at >= STATES || input < 0 || input >= INPUTS) {
+                return TO_DEATH;
+            }
+            long part = next[PARTS * at + input / PART_INPUTS];
+            return (int) (part >> input % PART_INPUTS * BITS & MASK) + TO_WIN;
+        }
+
+        /** The state from which a state was found; -1 for the first one. */
         private int stateBefore(int at) {
             return at < 0 || at >= STATES || before[at] < 0 ? -1 : before[at] / INPUTS;
+        }
+
+        private int inputBefore(int at) {
+            return at < 0 || at >= STATES || before[at] < 0 ? 0 : before[at] % INPUTS;
         }
 
         boolean isWon() {
@@ -1057,16 +1075,25 @@ public final class Levelsmith {
             return codes.count;
         }
 
-        int runLength() {
-            return winAt < 0 ? 0 : depthAt(winAt) + 1;
-        }
-
         int inputOfRun(int frame) {
-            return frame >= 0 && frame < runLength() && frame < STATES ? route[frame] : 0;
+            int at = winAt;
+            int input = winInput;
+            for (int later = runFrames - 1; later > frame && later > 0; later--) {
+                input = inputBefore(at);
+                at = stateBefore(at);
+            }
+            return input;
         }
 
+        /** In how many frames a state is found first. */
         int depthAt(int at) {
-            return at >= 0 && at < STATES ? depths[at] : 0;
+            int frames = 0;
+            int back = stateBefore(at);
+            while (back >= 0 && frames < STATES) {
+                frames++;
+                back = stateBefore(back);
+            }
+            return frames;
         }
 
         int cellAt(int at) {
@@ -1099,11 +1126,6 @@ public final class Levelsmith {
                 }
             }
             return Integer.bitCount(sets);
-        }
-
-        int nextOf(int at, int input) {
-            boolean isThere = at >= 0 && at < codes.count && at < STATES && input >= 0 && input < INPUTS;
-            return isThere ? next[INPUTS * at + input] : TO_DEATH;
         }
 
         /** Goes over all states until nothing is shorter; from behind, as ways to win lead to later states mostly. */
@@ -1182,7 +1204,7 @@ public final class Levelsmith {
         int countRests(Plan plan) {
             int rests = 0;
             int at = winAt;
-            for (int frame = runLength() - 1; frame > 0; frame--) {
+            for (int frame = runFrames - 1; frame > 0; frame--) {
                 rests += isRest(plan, at) ? 1 : 0;
                 at = stateBefore(at);
             }
@@ -1193,7 +1215,7 @@ public final class Levelsmith {
             int row = 1;
             int longest = 1;
             int at = winAt;
-            for (int frame = runLength() - 1; frame > 0; frame--) {
+            for (int frame = runFrames - 1; frame > 0; frame--) {
                 row = isRest(plan, at) ? 0 : row + 1;
                 longest = Math.max(longest, row);
                 at = stateBefore(at);
@@ -1215,18 +1237,21 @@ public final class Levelsmith {
         private int mendLevel = -1;
         private int mendVersion = -1;
         private final Plan trial = new Plan();
-        private final Codes codes = new Codes();
+        private final int[] row = new int[STATES];
+        private final long[] seen = new long[STATES / WORD];
+        private int count = 0;
         private final Player from = new Player();
         private final Player player = new Player();
 
         /** Phases in which all guards are in the same places are taken as one: the way on from them is the same. */
         boolean canWin(Plan plan, int things) {
             int period = Math.max(1, plan.period());
-            codes.count = 0;
+            count = 0;
+            Arrays.fill(seen, 0L);
             player.begin(plan, things);
-            codes.add(player.code());
-            for (int at = 0; at < codes.count && at < STATES; at++) {
-                from.decode(codes.codeAt(at));
+            addIfNew(player.code());
+            for (int at = 0; at < count && at < STATES; at++) {
+                from.decode(row[at]);
                 for (int input = 0; input < INPUTS; input++) {
                     player.become(from);
                     char end = player.pass(plan, input);
@@ -1234,12 +1259,25 @@ public final class Levelsmith {
                         return true;
                     }
                     player.phase = player.phase % period;
-                    if (end == GOES_ON && codes.placeOf(player.code()) < 0) {
-                        codes.add(player.code());
+                    if (end == GOES_ON) {
+                        addIfNew(player.code());
                     }
                 }
             }
             return false;
+        }
+
+        private void addIfNew(int code) {
+            int word = code / WORD;
+            if (code < 0 || word >= seen.length || count < 0 || count >= STATES) {
+                return;
+            }
+            long bit = 1L << code % WORD;
+            if ((seen[word] & bit) == 0) {
+                seen[word] = seen[word] | bit;
+                row[count] = code;
+                count++;
+            }
         }
 
         boolean canWinWithout(Plan plan, char sign) {

@@ -174,7 +174,7 @@ public final class RulesTest {
         long[] taken = {0, 0};
         count(house, taken);
         Check.same("room: objects " + taken[0], true, taken[0] < 200);
-        Check.same("room: fields and elements " + taken[1], true, taken[1] < 1000000);
+        Check.same("room: fields and elements " + taken[1], true, taken[1] < 450000);
     }
 
     private static void count(Levelsmith house, long[] taken) {
