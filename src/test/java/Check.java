@@ -25,9 +25,16 @@ final class Check {
         try {
             got = "the answer " + call.answer();
         } catch (Exception e) {
-            got = e.getClass().getName();
+            got = nameOf(e);
         }
         same(what, due.getName(), got);
+    }
+
+    /** The name of what was thrown, marked if no throw statement of Levelsmith did it. */
+    static String nameOf(Throwable thrown) {
+        StackTraceElement[] calls = thrown.getStackTrace();
+        boolean isItsOwn = calls.length > 0 && calls[0].getClassName().startsWith("Levelsmith");
+        return thrown.getClass().getName() + (isItsOwn ? "" : " that the machine throws");
     }
 
     /** Adds a level as it is drawn, row by row; '@' is air and the start. */
