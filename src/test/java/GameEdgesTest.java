@@ -18,6 +18,7 @@ public final class GameEdgesTest {
         replays();
         trueOrNot();
         patchedByAll();
+        patchedByTwo();
         notPatched();
         ghosts();
         botsLate();
@@ -324,6 +325,23 @@ public final class GameEdgesTest {
         patches("grown", true, house -> house.grow(0, 1));
         patches("mended", true, house -> house.mend(0));
         patches("put, and put back", true, house -> "" + house.put(0, 2, 1, '.') + house.put(0, 2, 1, '^'));
+    }
+
+    /** What comes behind a change does not undo it; a level that was grown is not mended, as it may be won. */
+    private static void patchedByTwo() {
+        String[] names = {"put", "filled", "started", "guarded", "mended", "grown"};
+        Change[] changes = {
+            house -> house.put(0, 3, 2, '#'), house -> house.fill(0, 0, 0, 4, 1, '#'), house -> house.start(0, 0, 1),
+            house -> house.guard(0, 3, 0, 2), house -> house.mend(0), house -> house.grow(0, 1)};
+        for (int first = 0; first < changes.length; first++) {
+            for (int second = 0; second < changes.length; second++) {
+                Change before = changes[first];
+                Change behind = changes[second];
+                if (first < 4 || second != 4) {
+                    patches(names[first] + ", then " + names[second], true, house -> "" + before.on(house) + behind.on(house));
+                }
+            }
+        }
     }
 
     private static void notPatched() {

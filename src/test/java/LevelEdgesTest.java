@@ -22,12 +22,15 @@ public final class LevelEdgesTest {
         shortest();
         longRun();
         allWays();
+        eachInputAlone();
+        firstStateAlone();
         restsAndAir();
         mendedByRows();
         mendsFirstAndLastCell();
         mendsToPlateThenAir();
         mendsNoExit();
         mendsNothing();
+        mendsInTurns();
         whereThereIsNothing();
         Check.end("LevelEdgesTest");
     }
@@ -297,6 +300,44 @@ public final class LevelEdgesTest {
         Check.same("18 none of things that do not win", 1, drawn("#######", "E@.^k##", "#######").ways(0));
     }
 
+    /** From the water in the middle each input leads to another cell, and one of these alone is the exit. */
+    private static void eachInputAlone() {
+        for (int input = 0; input < 6; input++) {
+            Levelsmith house = drawn("^^^", ".~.", "^^^");
+            house.start(0, 1, 1);
+            house.put(0, input % 3, input < 3 ? 2 : 0, 'E');
+            String what = " by input " + input + " alone";
+            Check.same("11" + what, true, house.isWinnable(0));
+            Check.same("12" + what, 1, house.frames(0));
+            Check.same("13" + what, input, house.routeAt(0, 0));
+            Check.same("14" + what, 1, house.states(0));
+            Check.same("16" + what, 0, house.softLocks(0));
+            Check.same("18" + what, 1, house.ways(0));
+            Check.same("37" + what, 30, house.bot(0, 0, 0, 1, 30));
+            Check.same("37 late," + what, 30, house.bot(0, 9, 0, 1, 30));
+            Check.same("46" + what, 1.0, house.meanLeft(0));
+            Check.same("47" + what, true, house.isSound());
+            for (int other = 0; other < 6; other++) {
+                house.play(0);
+                Check.same("26 input " + other + "," + what, other == input ? 'w' : 'd', house.input(other));
+            }
+        }
+    }
+
+    /** Whoever does not go aside in the first frame falls past the exit. */
+    private static void firstStateAlone() {
+        Levelsmith house = drawn(".@.", "E..", "...");
+        Check.same("13 from the first state", "0", Check.route(house, 0));
+        Check.same("14 the first state, two, and three", 6, house.states(0));
+        Check.same("16 all but the first state", 5, house.softLocks(0));
+        Check.same("17 behind the first state", "1 1 1", house.softLockAt(0, 'x') + " " + house.softLockAt(0, 'y') + " "
+                + house.softLockAt(0, 'f'));
+        Check.same("18 from the first state", 1, house.ways(0));
+        Check.same("45 all but the first state", 5.0f / 6.0f, house.stuckShare(0));
+        Check.same("46 the first state", 1.0, house.meanLeft(0));
+        Check.same("37 from the first state", 1, house.bot(0, 0, 0, 1, 1));
+    }
+
     private static void restsAndAir() {
         // One frame alone: it does not count for rests, and is in the air's row.
         Levelsmith one = drawn("###", "@E#", "###");
@@ -487,6 +528,26 @@ public final class LevelEdgesTest {
         Check.fails("22 it can be won", NONE, () -> won.mendAt(0, 'y'));
     }
 
+    /** What one level is mended by is nothing to another one. */
+    private static void mendsInTurns() {
+        Levelsmith house = drawn("####", "@.#E", "####");
+        Check.draw(house, "@##", "###", "E##");
+        Check.draw(house, "@..", "###", "###");
+        for (int turn = 0; turn < 3; turn++) {
+            Check.same("22 the first one", "2 1", house.mendAt(0, 'x') + " " + house.mendAt(0, 'y'));
+            Check.fails("22 none, behind the first one", NONE, () -> house.mendAt(2, 'x'));
+            Check.fails("21 none, behind the first one", UNSUPPORTED, () -> house.mend(2));
+            Check.same("22 the second one", "0 1", house.mendAt(1, 'x') + " " + house.mendAt(1, 'y'));
+            Check.fails("22 none, behind the second one", NONE, () -> house.mendAt(2, 'y'));
+        }
+        Check.same("21 the first one", 1, house.mend(0));
+        Check.fails("21 none, behind one that was mended", UNSUPPORTED, () -> house.mend(2));
+        Check.same("21 the second one", 1, house.mend(1));
+        Check.same("21 each as it was told", "= .", house.tile(0, 2, 1) + " " + house.tile(1, 0, 1));
+        Check.same("21 that one stays", "... ### ###", Check.row(house, 2, 0, 3) + " " + Check.row(house, 2, 1, 3) + " "
+                + Check.row(house, 2, 2, 3));
+    }
+
     private static void whereThereIsNothing() {
         Levelsmith house = new Levelsmith();
         Check.same("43 no levels", 0, house.levels());
@@ -507,7 +568,7 @@ public final class LevelEdgesTest {
         Check.fails("12 no run", NONE, () -> house.frames(0));
         Check.fails("46 no state that is not stuck", NONE, () -> house.meanLeft(0));
         house.put(0, 0, 2, 'E');
-        Check.same("16 no stuck state", 1, house.softLocks(0));
+        Check.same("16 the beginning alone is stuck", 1, house.softLocks(0));
         house.start(0, 0, 1);
         Check.same("14 no fall into an exit that bears nobody", 1, house.states(0));
         Check.same("11 it falls into the exit", true, house.isWinnable(0));
