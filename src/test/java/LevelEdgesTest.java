@@ -23,6 +23,7 @@ public final class LevelEdgesTest {
         longRun();
         allWays();
         eachInputAlone();
+        lowestAndHighest();
         firstStateAlone();
         restsAndAir();
         mendedByRows();
@@ -322,6 +323,17 @@ public final class LevelEdgesTest {
                 Check.same("26 input " + other + "," + what, other == input ? 'w' : 'd', house.input(other));
             }
         }
+    }
+
+    /** The lowest and the highest input each win in one frame, and all others in more of them. */
+    private static void lowestAndHighest() {
+        Levelsmith lowest = drawn("...", "E@.", "###");
+        Check.same("12 by the lowest input", 1, lowest.frames(0));
+        Check.same("47 by the lowest input", true, lowest.isSound());
+        Levelsmith highest = drawn("..E", ".@.", "###");
+        Check.same("12 by the highest input", 1, highest.frames(0));
+        Check.same("13 by the highest input", 5, highest.routeAt(0, 0));
+        Check.same("47 by the highest input", true, highest.isSound());
     }
 
     /** Whoever does not go aside in the first frame falls past the exit. */
