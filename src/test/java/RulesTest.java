@@ -1,4 +1,6 @@
 import java.io.IOException;
+import java.io.PrintWriter;
+import java.io.StringWriter;
 import java.lang.reflect.Array;
 import java.lang.reflect.Constructor;
 import java.lang.reflect.Field;
@@ -12,10 +14,13 @@ import java.util.Collections;
 import java.util.Deque;
 import java.util.IdentityHashMap;
 import java.util.List;
+import java.util.Map;
 import java.util.Set;
+import java.util.TreeMap;
 import java.util.TreeSet;
 import java.util.regex.Matcher;
 import java.util.regex.Pattern;
+import java.util.spi.ToolProvider;
 
 /** What of ../shared/LANGUAGE.md can be seen in the text, in the compiled class, and in a new object. */
 public final class RulesTest {
@@ -31,6 +36,8 @@ public final class RulesTest {
         text(source);
         methodsAreShort(source);
         face(Files.readString(Path.of("../shared/DOC.md")));
+        headsAreAsListed(source, Files.readString(Path.of("../shared/DOC.md")));
+        callsAreShallow();
         members();
         statics(Levelsmith.class);
         for (Class<?> inside : Levelsmith.class.getDeclaredClasses()) {
@@ -38,7 +45,7 @@ public final class RulesTest {
             Check.same("rule 1: " + inside + " is static", true, Modifier.isStatic(inside.getModifiers()));
             Check.same("rule 1: " + inside + " is not public", false, Modifier.isPublic(inside.getModifiers()));
         }
-        Check.same("rule 11: classes", true, Levelsmith.class.getDeclaredClasses().length <= 12);
+        Check.same("rule 11: classes", true, allClasses().size() <= 12);
         room();
         Check.end("RulesTest");
     }
@@ -111,6 +118,65 @@ public final class RulesTest {
         Check.same("rule 1: the face", due, got);
         Check.same("rule 1: final", true, Modifier.isFinal(Levelsmith.class.getModifiers()));
         Check.same("rule 1: no public constants", 0, Levelsmith.class.getFields().length);
+    }
+
+    /** The public heads must stand in the order of the document, with its names. */
+    private static void headsAreAsListed(String source, String document) {
+        String due = heads(document, "(?m)^    public ([^;{]+);");
+        Check.same("the heads of the face", due, heads(source, "(?m)^    public ([^;={]+)\\{"));
+    }
+
+    private static String heads(String text, String pattern) {
+        StringBuilder heads = new StringBuilder();
+        Matcher head = Pattern.compile(pattern).matcher(text);
+        while (head.find()) {
+            heads.append(head.group(1).trim().replaceAll("\\s+", " ")).append('\n');
+        }
+        return heads.toString();
+    }
+
+    /** Calls among the methods, by what javap tells of them, stand at most eight deep. */
+    private static void callsAreShallow() {
+        Map<String, Set<String>> calls = new TreeMap<>();
+        for (Class<?> type : allClasses()) {
+            noteCalls(type.getName(), calls);
+        }
+        int deepest = 0;
+        for (String method : calls.keySet()) {
+            deepest = Math.max(deepest, depth(method, calls, 0));
+        }
+        Check.same("rule 11: calls were found", true, deepest > 3);
+        Check.same("rule 11: calls " + deepest + " deep", true, deepest <= 8);
+    }
+
+    private static void noteCalls(String type, Map<String, Set<String>> calls) {
+        StringWriter told = new StringWriter();
+        PrintWriter writer = new PrintWriter(told);
+        ToolProvider javap = ToolProvider.findFirst("javap").orElseThrow();
+        javap.run(writer, writer, "-c", "-p", "-cp", System.getProperty("java.class.path"), type);
+        Set<String> called = new TreeSet<>();
+        for (String line : told.toString().split("\n")) {
+            Matcher head = Pattern.compile("  .*?([\\w$]+)\\(.*;").matcher(line);
+            Matcher call = Pattern.compile(".*// Method (Levelsmith[\\w$]*\\.)?\"?([\\w<>]+)\"?:.*").matcher(line);
+            if (line.startsWith("  ") && !line.startsWith("   ") && head.matches()) {
+                called = new TreeSet<>();
+                String name = head.group(1).equals(type) ? "<init>" : head.group(1);
+                calls.put(type + "." + name, called);
+            } else if (call.matches()) {
+                called.add((call.group(1) == null ? type + "." : call.group(1)) + call.group(2));
+            }
+        }
+    }
+
+    private static int depth(String method, Map<String, Set<String>> calls, int open) {
+        int deepest = 0;
+        for (String called : calls.getOrDefault(method, Set.of())) {
+            // A call that goes round would go on without an end.
+            if (open < 40 && calls.containsKey(called)) {
+                deepest = Math.max(deepest, depth(called, calls, open + 1));
+            }
+        }
+        return deepest + 1;
     }
 
     private static String parameters(Class<?>[] types) {
